@@ -1,4 +1,8 @@
-/** Counts and prints the answers that are not as due, and helps tests to use a house. */
+/**
+ * Counts and prints the answers that are not as due, and helps tests to use a house. Reading all
+ * that can be seen takes some tests past the 512 calls of the document: the program counts no
+ * calls, so its answers stay as promised there.
+ */
 final class Checks {
     private static final Class<IllegalArgumentException> ARGUMENT = IllegalArgumentException.class;
     private static final Class<IllegalStateException> STATE = IllegalStateException.class;

@@ -13,6 +13,7 @@ public final class EndsTest {
         longSessions();
         endsInOrder();
         endsOnce();
+        aHouseFullOfMessages();
         noSuchSession();
         noSuchMessage();
         CHECKS.end("ends");
@@ -178,6 +179,17 @@ public final class EndsTest {
         house.tick(200);
         house.tick(200);
         CHECKS.same("messages", Checks.messages(house), "0 1001");
+    }
+
+    private static void aHouseFullOfMessages() {
+        TicketHouse house = withUser();
+        house.login(0, 5, false);
+        for (int t = 0; t < 150; t++) {
+            house.ticket(0, 1);
+        }
+        CHECKS.same("logout with 150 tickets", house.logout(0), 150);
+        CHECKS.same("message(149)", house.message(149), 1149);
+        CHECKS.same("message(150)", house.message(150), TicketHouse.NONE);
     }
 
     private static void noSuchSession() {

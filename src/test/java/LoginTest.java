@@ -152,6 +152,16 @@ public final class LoginTest {
         }
         house.password(2, 1);
         CHECKS.same("user 3 is still locked", house.login(3, 5, false), TicketHouse.LOCKED);
+        for (int u = 0; u < 4; u++) {
+            house.password(u, 5);
+            for (int i = 0; i < 3; i++) {
+                house.login(u, 6, false);
+            }
+        }
+        house.tick(21);
+        for (int u = 0; u < 4; u++) {
+            CHECKS.same("user " + u + " is locked no more", house.house(5 + u), 0);
+        }
     }
 
     private static void fortySessions() {
@@ -161,6 +171,10 @@ public final class LoginTest {
         for (int n = 0; n < 40; n++) {
             CHECKS.same("login " + n, house.login(0, 5, false), n);
         }
+        CHECKS.same("session(39, 1)", house.session(39, 1), 1);
+        CHECKS.same("session(40, 1)", house.session(40, 1), TicketHouse.NONE);
+        CHECKS.badArgument("ticket(40, 0)", house, () -> house.ticket(40, 0));
+        CHECKS.badArgument("logout(40)", house, () -> house.logout(40));
         house.logout(39);
         CHECKS.badState("a right login", house, () -> house.login(0, 5, false));
         CHECKS.badState("a wrong login", house, () -> house.login(0, 6, false));

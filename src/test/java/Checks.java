@@ -1,18 +1,41 @@
-/**
- * Counts and prints the answers that are not as due, and helps tests to use a house. Reading all
- * that can be seen takes some tests past the 512 calls of the document: the program counts no
- * calls, so its answers stay as promised there.
- */
+import java.util.TreeSet;
+import java.util.function.Consumer;
+import java.util.function.ObjIntConsumer;
+
+/** Counts and prints the answers that are not as due, under the sentence that they break. */
 final class Checks {
     private static final Class<IllegalArgumentException> ARGUMENT = IllegalArgumentException.class;
     private static final Class<IllegalStateException> STATE = IllegalStateException.class;
 
     private int wrong;
+    private String sentence = "";
+    // What a house was like is kept while many calls are refused on it.
+    private House latest;
+    private int latestCount;
+    private String latestAll;
+
+    /** The test of one sentence of the document. */
+    void holds(String sentence, Runnable test) {
+        this.sentence = sentence;
+        try {
+            test.run();
+        } catch (RuntimeException | AssertionError e) {
+            tell("the test was ended by " + e + " at " + e.getStackTrace()[0]);
+        }
+    }
+
+    private void tell(String what) {
+        if (!sentence.isEmpty()) {
+            System.out.println("BROKEN: " + sentence);
+            sentence = "";
+        }
+        wrong++;
+        System.out.println("  " + what);
+    }
 
     void same(String what, long got, long due) {
         if (got != due) {
-            wrong++;
-            System.out.println(what + " answered " + got + ", due is " + due);
+            tell(what + " answered " + got + ", due is " + due);
         }
     }
 
@@ -22,30 +45,68 @@ final class Checks {
 
     void same(String what, String got, String due) {
         if (!got.equals(due)) {
-            wrong++;
-            System.out.println(what + " answered\n  " + got + ", due is\n  " + due);
+            tell(what + " answered\n    " + got + ", due is\n    " + due);
         }
     }
 
-    void badArgument(String what, TicketHouse house, Runnable call) {
+    void none(String what, long got) {
+        same(what, got, TicketHouse.NONE);
+    }
+
+    void badArgument(String what, House house, Consumer<House> call) {
         refused(what, house, ARGUMENT, call);
     }
 
-    void badState(String what, TicketHouse house, Runnable call) {
+    void badState(String what, House house, Consumer<House> call) {
         refused(what, house, STATE, call);
     }
 
-    /** The call must throw exactly this, and leave everything that can be seen as it was. */
-    private void refused(String what, TicketHouse house, Class<?> due, Runnable call) {
-        String before = all(house);
+    /** IllegalArgumentException for all that is not least .. greatest; # stands for it. */
+    void badOutside(String what, House house, int least, int greatest,
+            ObjIntConsumer<House> call) {
+        for (int x : outside(least, greatest)) {
+            badArgument(what.replace("#", String.valueOf(x)), house, h -> call.accept(h, x));
+        }
+    }
+
+    /** The call must throw exactly this, and leave everything as it was. */
+    private void refused(String what, House house, Class<?> due, Consumer<House> call) {
+        House tried = house.again();
         String thrown = "nothing";
         try {
-            call.run();
+            call.accept(tried);
         } catch (RuntimeException e) {
             thrown = e.getClass().getName();
         }
         same(what + " throws", thrown, due.getName());
-        same("all that can be seen after " + what, all(house), before);
+        same("everything after " + what, Reading.all(tried), allOf(house));
+    }
+
+    private String allOf(House house) {
+        if (house != latest || house.callCount() != latestCount) {
+            latest = house;
+            latestCount = house.callCount();
+            latestAll = Reading.all(house);
+        }
+        return latestAll;
+    }
+
+    /**
+     * Numbers that are not least .. greatest: the next ones on both sides, some that are alike to
+     * one inside in their low bits or when they wrap around, and the ends of int.
+     */
+    static int[] outside(int least, int greatest) {
+        TreeSet<Integer> found = new TreeSet<>();
+        for (int step : new int[] {1, 2, 8, 64, 256, 1 << 16, 1 << 24, 1 << 31}) {
+            for (int x : new int[] {least - step, least + step, greatest - step, greatest + step}) {
+                found.add(x);
+            }
+        }
+        found.add(-1);
+        found.add(Integer.MIN_VALUE);
+        found.add(Integer.MAX_VALUE);
+        found.removeIf(x -> x >= least && x <= greatest);
+        return found.stream().mapToInt(x -> x).toArray();
     }
 
     void end(String test) {
@@ -53,75 +114,5 @@ final class Checks {
         if (wrong != 0) {
             System.exit(1);
         }
-    }
-
-    static void draft(TicketHouse house, String row) {
-        for (int i = 0; i < row.length(); i++) {
-            house.letter(row.charAt(i));
-        }
-    }
-
-    static void text(TicketHouse house, int u, int which, String row) {
-        draft(house, row);
-        house.text(u, which);
-    }
-
-    static String document(TicketHouse house) {
-        StringBuilder row = new StringBuilder();
-        int length = house.document(TicketHouse.NONE);
-        for (int i = 0; i < length; i++) {
-            row.append((char) house.document(i));
-        }
-        return row.toString();
-    }
-
-    static String messages(TicketHouse house) {
-        StringBuilder row = new StringBuilder();
-        for (int i = 0; i < house.house(3); i++) {
-            row.append(house.message(i)).append(' ');
-        }
-        return row.toString().trim();
-    }
-
-    static String session(TicketHouse house, int n) {
-        StringBuilder row = new StringBuilder();
-        for (int what = 0; what <= 4; what++) {
-            row.append(house.session(n, what)).append(' ');
-        }
-        return row.toString().trim();
-    }
-
-    static String ticket(TicketHouse house, int t) {
-        StringBuilder row = new StringBuilder();
-        for (int what = 0; what <= 7; what++) {
-            row.append(house.about(t, what)).append(' ');
-        }
-        return row.toString().trim();
-    }
-
-    /** Flags and callbacks can be read only by setting them: they are set back at once. */
-    static String all(TicketHouse house) {
-        StringBuilder row = new StringBuilder();
-        for (int what = 0; what <= 8; what++) {
-            row.append(house.house(what)).append(' ');
-        }
-        row.append('|').append(document(house)).append('|').append(messages(house));
-        for (int n = 0; n < house.house(1); n++) {
-            row.append("|s ").append(session(house, n));
-        }
-        for (int t = 0; t < house.house(2); t++) {
-            row.append("|t ").append(ticket(house, t));
-        }
-        for (int s = 0; s < 6; s++) {
-            int flags = house.service(s, 0);
-            house.service(s, flags);
-            row.append("|f ").append(flags);
-        }
-        for (int c = 1; c <= 5; c++) {
-            boolean works = house.callback(c, true);
-            house.callback(c, works);
-            row.append("|c ").append(works);
-        }
-        return row.toString();
     }
 }

@@ -5,7 +5,7 @@ import java.util.List;
  * The document once more, in texts and growing lists. Death and locks are marked here when they
  * come and tries are kept one by one, so that it shares as little as possible with the program.
  */
-final class Model {
+final class Model implements Face {
     static final class Session {
         int user;
         int login;
@@ -66,37 +66,42 @@ final class Model {
         return within(s, 0, 5) && flags[s] / flag % 2 == 1;
     }
 
-    int letter(int c) {
+    @Override
+    public int letter(int c) {
         argument(within(c, 32, 126));
         state(draft.length() < 8);
         draft += (char) c;
         return draft.length();
     }
 
-    int text(int u, int which) {
+    @Override
+    public int text(int u, int which) {
         argument(within(u, 0, 3) && within(which, 0, 3));
         texts[u][which] = draft;
         draft = "";
         return texts[u][which].length();
     }
 
-    int password(int u, int word) {
+    @Override
+    public boolean password(int u, int word) {
         argument(within(u, 0, 3));
         words[u] = word;
         wrongTimes.get(u).clear();
-        return 1;
+        return true;
     }
 
-    int service(int s, int now) {
+    @Override
+    public int service(int s, int now) {
         argument(within(s, 0, 5) && within(now, 0, 63));
         int before = flags[s];
         flags[s] = now;
         return before;
     }
 
-    int callback(int c, boolean works) {
+    @Override
+    public boolean callback(int c, boolean works) {
         argument(within(c, 1, 5));
-        int before = broken[c] ? 0 : 1;
+        boolean before = !broken[c];
         broken[c] = !works;
         return before;
     }
@@ -139,13 +144,15 @@ final class Model {
         return tickets.size() - 1;
     }
 
-    int login(int u, int word, boolean remember) {
+    @Override
+    public int login(int u, int word, boolean remember) {
         argument(within(u, 0, 3));
         state(sessions.size() < 40);
         return attempt(u, word, remember);
     }
 
-    int enter(int u, int word, int s) {
+    @Override
+    public int enter(int u, int word, int s) {
         argument(within(u, 0, 3) && has(s, 1));
         state(sessions.size() < 40 && tickets.size() < 150);
         int opened = attempt(u, word, false);
@@ -157,14 +164,16 @@ final class Model {
         return t;
     }
 
-    int ticket(int session, int s) {
+    @Override
+    public int ticket(int session, int s) {
         argument(within(session, 0, sessions.size() - 1) && has(s, 1));
         state(!sessions.get(session).ended && tickets.size() < 150);
         sessions.get(session).used = clock;
         return give(0, session, s, -1);
     }
 
-    int proxy(int g, int s) {
+    @Override
+    public int proxy(int g, int s) {
         argument(within(g, 0, tickets.size() - 1) && has(s, 1) && tickets.get(g).kind == 2);
         state(!tickets.get(g).dead && tickets.size() < 150);
         sessions.get(tickets.get(g).session).used = clock;
@@ -188,7 +197,8 @@ final class Model {
         return how % 2 == 1 && !asked.fresh ? 5 : 0;
     }
 
-    int validate(int t, int s, int how, int c) {
+    @Override
+    public int validate(int t, int s, int how, int c) {
         argument(within(how, 0, 7) && within(c, 0, 5));
         int code = code(t, s, how);
         if (code != 1 && code != 2) {
@@ -228,7 +238,8 @@ final class Model {
                 .replace("\"", "&quot;");
     }
 
-    int logout(int session) {
+    @Override
+    public int logout(int session) {
         argument(within(session, 0, sessions.size() - 1));
         state(!sessions.get(session).ended);
         int before = messages.size();
@@ -249,7 +260,8 @@ final class Model {
         }
     }
 
-    int tick(int n) {
+    @Override
+    public int tick(int n) {
         argument(within(n, 1, 200));
         clock += n;
         for (int i = 0; i < sessions.size(); i++) {
@@ -271,14 +283,16 @@ final class Model {
         return clock;
     }
 
-    int document(int i) {
+    @Override
+    public int document(int i) {
         if (i == -1) {
             return document.length();
         }
         return within(i, 0, document.length() - 1) ? document.charAt(i) : -1;
     }
 
-    int session(int n, int what) {
+    @Override
+    public int session(int n, int what) {
         if (!within(n, 0, sessions.size() - 1) || !within(what, 0, 4)) {
             return -1;
         }
@@ -287,7 +301,8 @@ final class Model {
             found.remembered ? 1 : 0}[what];
     }
 
-    int about(int t, int what) {
+    @Override
+    public int about(int t, int what) {
         if (!within(t, 0, tickets.size() - 1) || !within(what, 0, 7)) {
             return -1;
         }
@@ -296,11 +311,28 @@ final class Model {
             found.fresh ? 1 : 0, found.from, found.chain.size()}[what];
     }
 
-    int house(int what) {
+    @Override
+    public int message(int i) {
+        return within(i, 0, messages.size() - 1) ? messages.get(i) : -1;
+    }
+
+    @Override
+    public int house(int what) {
         if (!within(what, 0, 8)) {
             return -1;
         }
         return what >= 5 ? wrongTimes.get(what - 5).size() : new int[] {clock, sessions.size(),
             tickets.size(), messages.size(), draft.length()}[what];
+    }
+
+    /** Reading changes nothing here, and no calls are counted. */
+    @Override
+    public Face again() {
+        return this;
+    }
+
+    @Override
+    public boolean isSpent() {
+        return false;
     }
 }

@@ -4,17 +4,18 @@ import java.util.List;
 import java.util.Random;
 
 /**
- * Runs of up to 512 random calls, always the same ones, on a house and on a second model of the
+ * Runs of 512 random calls, always the same ones, on a house and on a second model of the
  * document that is written with no care for room: every answer and every exception must be alike.
  */
 public final class ModelTest {
     private static final int RUNS = 1500;
-    private static final int CALLS = 512;
+    private static final int VALIDATE = 9;
+    private static final int SWEEP_AT = 470;
     private static final int[] ODD = {-1, -2, 6, 8, 40, 64, 150, 201, Integer.MIN_VALUE,
         Integer.MAX_VALUE};
 
     private final Random random;
-    private final TicketHouse house = new TicketHouse();
+    private final House house = new House();
     private final Model model = new Model();
     /** How many of a hundred arguments may be odd ones, and how far the clock may jump. */
     private final int oddness;
@@ -40,15 +41,22 @@ public final class ModelTest {
     private boolean isWrong(int run) {
         List<String> told = new ArrayList<>();
         prepare();
-        for (int i = 0; i < CALLS; i++) {
+        while (!house.isSpent()) {
             int call = pickCall();
             int[] a = arguments(call);
-            String due = answer(call, a, true);
-            String got = answer(call, a, false);
+            String due = answer(model, call, a);
+            String got = answer(house, call, a);
+            // All that can be seen once, late in the run; else the document after each asking.
+            if (house.callCount() == SWEEP_AT) {
+                due += Reading.visible(model);
+                got += Reading.visible(house);
+            } else if (call == VALIDATE && !house.isSpent()) {
+                due += Reading.document(model);
+                got += Reading.document(house);
+            }
             told.add(call + Arrays.toString(a) + " " + got);
-            if (!got.equals(due) || !Checks.document(house).equals(model.document)) {
-                System.out.println("run " + run + ": " + told + " due is " + due + ", document "
-                        + Checks.document(house) + " due is " + model.document);
+            if (!got.equals(due)) {
+                System.out.println("run " + run + ": " + told + " due is " + due);
                 return true;
             }
         }
@@ -102,7 +110,7 @@ public final class ModelTest {
             case 6: return withWord(pick(6));
             case 7: return new int[] {pickLate(sessions), pick(5)};
             case 8: return new int[] {grantingOr(pickLate(tickets)), pick(5)};
-            case 9: return asking(pickLate(tickets));
+            case VALIDATE: return asking(pickLate(tickets));
             case 10: return new int[] {pickLate(sessions)};
             case 11: return new int[] {1 + pick(longestTick)};
             case 12: return new int[] {pick(80) - 1};
@@ -133,56 +141,33 @@ public final class ModelTest {
         return new int[] {t, s, pick(8), random.nextInt(3) == 0 ? 0 : pick(6)};
     }
 
-    private String answer(int call, int[] a, boolean ofModel) {
+    private static String answer(Face face, int call, int[] a) {
         try {
-            return String.valueOf(ofModel ? ofModel(call, a) : ofHouse(call, a));
+            return String.valueOf(ask(face, call, a));
         } catch (RuntimeException e) {
             return e.getClass().getName();
         }
     }
 
-    private int ofHouse(int call, int[] a) {
+    private static int ask(Face face, int call, int[] a) {
         switch (call) {
-            case 0: return house.letter(a[0]);
-            case 1: return house.text(a[0], a[1]);
-            case 2: return house.password(a[0], a[1]) ? 1 : 0;
-            case 3: return house.service(a[0], a[1]);
-            case 4: return house.callback(a[0], a[1] == 1) ? 1 : 0;
-            case 5: return house.login(a[0], a[1], a[2] == 1);
-            case 6: return house.enter(a[0], a[1], a[2]);
-            case 7: return house.ticket(a[0], a[1]);
-            case 8: return house.proxy(a[0], a[1]);
-            case 9: return house.validate(a[0], a[1], a[2], a[3]);
-            case 10: return house.logout(a[0]);
-            case 11: return house.tick(a[0]);
-            case 12: return house.document(a[0]);
-            case 13: return house.session(a[0], a[1]);
-            case 14: return house.about(a[0], a[1]);
-            case 15: return house.message(a[0]);
-            default: return house.house(a[0]);
-        }
-    }
-
-    private int ofModel(int call, int[] a) {
-        switch (call) {
-            case 0: return model.letter(a[0]);
-            case 1: return model.text(a[0], a[1]);
-            case 2: return model.password(a[0], a[1]);
-            case 3: return model.service(a[0], a[1]);
-            case 4: return model.callback(a[0], a[1] == 1);
-            case 5: return model.login(a[0], a[1], a[2] == 1);
-            case 6: return model.enter(a[0], a[1], a[2]);
-            case 7: return model.ticket(a[0], a[1]);
-            case 8: return model.proxy(a[0], a[1]);
-            case 9: return model.validate(a[0], a[1], a[2], a[3]);
-            case 10: return model.logout(a[0]);
-            case 11: return model.tick(a[0]);
-            case 12: return model.document(a[0]);
-            case 13: return model.session(a[0], a[1]);
-            case 14: return model.about(a[0], a[1]);
-            case 15: return a[0] >= 0 && a[0] < model.messages.size()
-                    ? model.messages.get(a[0]) : -1;
-            default: return model.house(a[0]);
+            case 0: return face.letter(a[0]);
+            case 1: return face.text(a[0], a[1]);
+            case 2: return face.password(a[0], a[1]) ? 1 : 0;
+            case 3: return face.service(a[0], a[1]);
+            case 4: return face.callback(a[0], a[1] == 1) ? 1 : 0;
+            case 5: return face.login(a[0], a[1], a[2] == 1);
+            case 6: return face.enter(a[0], a[1], a[2]);
+            case 7: return face.ticket(a[0], a[1]);
+            case 8: return face.proxy(a[0], a[1]);
+            case VALIDATE: return face.validate(a[0], a[1], a[2], a[3]);
+            case 10: return face.logout(a[0]);
+            case 11: return face.tick(a[0]);
+            case 12: return face.document(a[0]);
+            case 13: return face.session(a[0], a[1]);
+            case 14: return face.about(a[0], a[1]);
+            case 15: return face.message(a[0]);
+            default: return face.house(a[0]);
         }
     }
 }

@@ -1,299 +1,340 @@
-/** Promises 11 (validate) and 14 (document). */
+/** Promise 11 (validate): the codes, their order, and what asking for a ticket does. */
 public final class ValidateTest {
     private static final Checks CHECKS = new Checks();
-    private static final String PLAIN = "<ok u=\"Ann\"><d>4</d><n>0</n></ok>";
+    private static final int PLAIN = 0;
+    private static final int FRESH = 1;
+    private static final int PROXY = 2;
+    private static final int GRANTING = 3;
 
     public static void main(String[] args) {
-        accepted();
-        unknown();
-        ofWrongKind();
-        dead();
-        forAnotherService();
-        notFresh();
-        firstCodeThatHolds();
-        attributes();
-        escapes();
-        grantingTickets();
-        chainInItsOrder();
-        longestDocument();
-        theDocument();
-        theDocumentStays();
-        refuses();
+        CHECKS.holds("1 there are no such ticket", ValidateTest::noSuchTicket);
+        CHECKS.holds("1 or no such service", ValidateTest::noSuchService);
+        CHECKS.holds("1 or the service is not enabled", ValidateTest::notEnabled);
+        CHECKS.holds("2 it is a granting ticket", ValidateTest::grantingTicket);
+        CHECKS.holds("2 or a proxy ticket and proxies are not accepted", ValidateTest::proxyTicket);
+        CHECKS.holds("3 it is dead", ValidateTest::dead);
+        CHECKS.holds("4 it was given for another service", ValidateTest::anotherService);
+        CHECKS.holds("5 renewal is wanted, and it is not fresh", ValidateTest::notFresh);
+        CHECKS.holds("0 otherwise", ValidateTest::accepted);
+        CHECKS.holds("the first that holds", ValidateTest::firstThatHolds);
+        CHECKS.holds("In all cases but 1, 2 a ticket for which one has asked is dead then; with "
+                + "code 0 its session is used now", ValidateTest::allCases);
+        CHECKS.holds("With code 0 and a callback that works, when the service may use proxies",
+                ValidateTest::whoIsGranted);
+        CHECKS.holds("and there are less than 150 tickets: a granting ticket is GIVEN",
+                ValidateTest::lastGranted);
+        CHECKS.holds("a granting ticket is given now, for the callback, of the session, from the "
+                + "ticket for which one had asked", ValidateTest::whatIsGranted);
+        CHECKS.holds("11: how is not 0 .. 7", ValidateTest::wrongWishes);
+        CHECKS.holds("11: or c is not 0 .. 5", ValidateTest::wrongCallbacks);
+        CHECKS.holds("11: nothing is full for one who asks", ValidateTest::fullHouses);
         CHECKS.end("validate");
     }
 
-    /** Ann's session 0 since 4, with service ticket 0 for service 2; service 3 is enabled too. */
-    private static TicketHouse withTicket() {
-        TicketHouse house = new TicketHouse();
-        Checks.text(house, 1, 3, "Ann");
-        house.password(1, 5);
-        house.service(2, 3);
-        house.service(3, 1);
+    /**
+     * Session 0 since 4 and used last then. Ticket 0 was asked for, 1 is granting, and 2, for
+     * service 0, is a proxy ticket or a service ticket that is not fresh. The clock is 5.
+     */
+    private static House withTicket(int kind) {
+        House house = Scenes.start();
         house.tick(4);
-        house.login(1, 5, false);
-        house.ticket(0, 2);
+        house.login(0, 5, false);
+        house.validate(house.ticket(0, 0), 0, 0, 5);
+        if (kind == PROXY) {
+            house.proxy(1, 0);
+        } else {
+            house.ticket(0, 0);
+        }
+        house.tick(1);
         return house;
     }
 
-    private static String no(int code, int t) {
-        return "<no c=\"" + code + "\">" + t + "</no>";
+    private static void noSuchTicket() {
+        House house = withTicket(PLAIN);
+        for (int t : Checks.outside(0, 2)) {
+            House asked = house.again();
+            CHECKS.same("validate(" + t + ", 0, 2, 1)", asked.validate(t, 0, 2, 1), 1);
+            CHECKS.same("house(2)", asked.house(2), 3);
+        }
+        CHECKS.same("validate(2, 0, 2, 1)", house.validate(2, 0, 2, 1), 0);
+        House full = Scenes.fullOfTickets();
+        for (int t : Checks.outside(0, 149)) {
+            CHECKS.same("validate(" + t + ", 0, 2, 0)", full.validate(t, 0, 2, 0), 1);
+        }
+        CHECKS.same("validate(149, 0, 2, 0)", full.validate(149, 0, 2, 0), 0);
     }
 
-    private static void asks(TicketHouse house, int t, int s, int how, int code) {
-        String call = "validate(" + t + ", " + s + ", " + how + ", 0)";
-        CHECKS.same(call, house.validate(t, s, how, 0), code);
-        if (code != 0) {
-            CHECKS.same("document of " + call, Checks.document(house), no(code, t));
+    private static void noSuchService() {
+        House house = withTicket(PLAIN);
+        for (int s : Checks.outside(0, 5)) {
+            CHECKS.same("validate(2, " + s + ", 0, 0)", house.validate(2, s, 0, 0), 1);
+        }
+        CHECKS.same("validate(2, 0, 0, 0)", house.validate(2, 0, 0, 0), 0);
+        for (int s : new int[] {0, 5}) {
+            House end = Scenes.start();
+            end.service(s, 1);
+            CHECKS.same("validate for " + s, end.validate(end.enter(0, 5, s), s, 0, 0), 0);
+        }
+    }
+
+    private static void notEnabled() {
+        House house = withTicket(PLAIN);
+        for (int s = 2; s <= 5; s++) {
+            CHECKS.same("validate(2, " + s + ", 0, 0)", house.validate(2, s, 0, 0), 1);
+        }
+        house.service(0, 62);
+        CHECKS.same("no more enabled", house.validate(2, 0, 0, 0), 1);
+        house.service(0, 1);
+        CHECKS.same("the ticket stays good", house.about(2, 1), 1);
+        CHECKS.same("the session is not used", house.session(0, 3), 4);
+        CHECKS.same("enabled again", house.validate(2, 0, 0, 0), 0);
+    }
+
+    private static void grantingTicket() {
+        House house = withTicket(PLAIN);
+        for (int how = 0; how <= 7; how++) {
+            for (int c = 0; c <= 5; c++) {
+                CHECKS.same("validate(1, 0, " + how + ", " + c + ")",
+                        house.validate(1, 0, how, c), 2);
+            }
+        }
+        CHECKS.same("the granting ticket stays good", house.about(1, 1), 1);
+        CHECKS.same("proxy", house.proxy(1, 1), 3);
+    }
+
+    private static void proxyTicket() {
+        House house = withTicket(PROXY);
+        for (int how : new int[] {0, 1, 4, 5}) {
+            CHECKS.same("validate(2, 0, " + how + ", 1)", house.validate(2, 0, how, 1), 2);
+        }
+        CHECKS.same("the proxy ticket stays good", house.about(2, 1), 1);
+        CHECKS.same("house(2)", house.house(2), 3);
+        CHECKS.same("accepted", house.again().validate(2, 0, 2, 1), 0);
+        CHECKS.same("accepted, with attributes", house.again().validate(2, 0, 6, 1), 0);
+        CHECKS.same("a service ticket needs no proxies", withTicket(PLAIN).validate(2, 0, 0, 1), 0);
+    }
+
+    private static void dead() {
+        House late = withTicket(PLAIN);
+        late.tick(9);
+        CHECKS.same("10 after it was given", late.again().validate(2, 0, 0, 0), 0);
+        late.tick(1);
+        CHECKS.same("11 after it was given", late.validate(2, 0, 0, 0), 3);
+        for (int code : new int[] {0, 4, 5}) {
+            House asked = withTicket(PLAIN);
+            CHECKS.same("first code", asked.validate(2, code == 4 ? 1 : 0, code == 5 ? 1 : 0, 0),
+                    code);
+            CHECKS.same("second code", asked.validate(2, 0, 0, 0), 3);
+        }
+        House out = withTicket(PLAIN);
+        out.logout(0);
+        CHECKS.same("of an ended session", out.validate(2, 0, 0, 0), 3);
+    }
+
+    private static void anotherService() {
+        for (int kind : new int[] {PLAIN, PROXY}) {
+            House house = withTicket(kind);
+            CHECKS.same("validate(2, 1, 2, 0)", house.validate(2, 1, 2, 0), 4);
+            CHECKS.same("good", house.about(2, 1), 0);
+            CHECKS.same("validate(2, 0, 2, 0)", house.validate(2, 0, 2, 0), 3);
+        }
+    }
+
+    private static void notFresh() {
+        CHECKS.same("a plain one", withTicket(PLAIN).validate(2, 0, 1, 0), 5);
+        CHECKS.same("a proxy ticket", withTicket(PROXY).validate(2, 0, 3, 0), 5);
+        House fromFresh = Scenes.start();
+        fromFresh.validate(fromFresh.enter(0, 5, 0), 0, 1, 1);
+        CHECKS.same("a proxy ticket from a fresh one",
+                fromFresh.validate(fromFresh.proxy(1, 0), 0, 3, 0), 5);
+        for (int how = 0; how <= 7; how++) {
+            House house = Scenes.start();
+            CHECKS.same("a fresh one", house.validate(house.enter(0, 5, 0), 0, how, 0), 0);
         }
     }
 
     private static void accepted() {
-        TicketHouse house = withTicket();
-        house.tick(10);
-        asks(house, 0, 2, 0, 0);
-        CHECKS.same("document", Checks.document(house), PLAIN);
-        CHECKS.same("its session is used", Checks.session(house, 0), "1 1 4 14 0");
-        CHECKS.same("it is dead", house.about(0, 1), 0);
-        CHECKS.same("no granting ticket", house.house(2), 1);
-        TicketHouse remembered = withTicket();
-        remembered.login(1, 5, true);
-        remembered.tick(6);
-        remembered.validate(remembered.ticket(1, 3), 3, 7 - 1, 0);
-        CHECKS.same("remembered", Checks.document(remembered),
-                "<ok u=\"Ann\"><d>4</d><l>1</l><n>0</n></ok>");
-        remembered.validate(remembered.enter(1, 5, 3), 3, 1, 0);
-        CHECKS.same("fresh", Checks.document(remembered), "<ok u=\"Ann\"><d>10</d><n>1</n></ok>");
-    }
-
-    private static void unknown() {
-        TicketHouse house = withTicket();
-        house.tick(1);
-        house.service(4, 62);
-        for (int t : new int[] {1, -1, 150, Integer.MIN_VALUE, Integer.MAX_VALUE}) {
-            asks(house, t, 2, 0, 1);
-        }
-        for (int s : new int[] {0, 4, 6, -1, Integer.MIN_VALUE, Integer.MAX_VALUE}) {
-            asks(house, 0, s, 0, 1);
-        }
-        house.service(2, 2);
-        asks(house, 0, 2, 0, 1);
-        house.service(2, 3);
-        CHECKS.same("the ticket stays good", house.about(0, 1), 1);
-        CHECKS.same("the session is not used", house.session(0, 3), 4);
-        asks(house, 0, 2, 0, 0);
-    }
-
-    private static void ofWrongKind() {
-        TicketHouse house = withTicket();
-        house.validate(0, 2, 0, 5);
-        house.proxy(1, 3);
-        house.tick(1);
         for (int how = 0; how <= 7; how++) {
-            asks(house, 1, 2, how, 2);
-            if ((how & 2) == 0) {
-                asks(house, 2, 3, how, 2);
+            for (int c = 0; c <= 5; c++) {
+                boolean renewal = how % 2 == 1;
+                CHECKS.same("validate(2, 0, " + how + ", " + c + ")",
+                        withTicket(PLAIN).validate(2, 0, how, c), renewal ? 5 : 0);
             }
         }
-        CHECKS.same("the granting ticket stays good", house.about(1, 1), 1);
-        CHECKS.same("the proxy ticket stays good", house.about(2, 1), 1);
-        CHECKS.same("the session is not used", house.session(0, 3), 4);
-        asks(house, 2, 3, 2, 0);
-        CHECKS.same("proxies accepted", Checks.document(house),
-                "<ok u=\"Ann\"><d>4</d><n>0</n><p>5</p></ok>");
-        CHECKS.same("the proxy ticket is dead", house.about(2, 1), 0);
     }
 
-    private static void dead() {
-        TicketHouse house = withTicket();
-        house.tick(11);
-        asks(house, 0, 2, 0, 3);
-        CHECKS.same("the session is not used", house.session(0, 3), 4);
-        house.ticket(0, 2);
-        asks(house, 1, 2, 0, 0);
-        asks(house, 1, 2, 0, 3);
-        house.ticket(0, 2);
-        house.logout(0);
-        asks(house, 2, 2, 0, 3);
+    /** For each two codes a ticket to which both apply. */
+    private static void firstThatHolds() {
+        House proxy = withTicket(PROXY);
+        CHECKS.same("1 and 2", proxy.again().validate(2, 2, 0, 0), 1);
+        CHECKS.same("1 and 2, granting", proxy.again().validate(1, 2, 2, 0), 1);
+        CHECKS.same("2 and 4", proxy.again().validate(2, 1, 0, 0), 2);
+        CHECKS.same("2 and 5", proxy.again().validate(2, 0, 1, 0), 2);
+        CHECKS.same("2, 4 and 5", proxy.again().validate(2, 1, 1, 0), 2);
+        CHECKS.same("1, 4 and 5", proxy.again().validate(2, 2, 3, 0), 1);
+        CHECKS.same("4 and 5", proxy.again().validate(2, 1, 3, 0), 4);
+        CHECKS.same("1 and 4", proxy.again().validate(2, 2, 2, 0), 1);
+        House closed = proxy.again();
+        closed.service(0, 62);
+        CHECKS.same("1 and 5", closed.validate(2, 0, 3, 0), 1);
+        proxy.tick(11);
+        CHECKS.same("1 and 3", proxy.again().validate(2, 2, 2, 0), 1);
+        CHECKS.same("2 and 3", proxy.again().validate(2, 0, 0, 0), 2);
+        CHECKS.same("3 and 4", proxy.again().validate(2, 1, 2, 0), 3);
+        CHECKS.same("3 and 5", proxy.again().validate(2, 0, 3, 0), 3);
+        CHECKS.same("3, 4 and 5", proxy.again().validate(2, 1, 3, 0), 3);
+        CHECKS.same("2, 3, 4 and 5", proxy.again().validate(2, 1, 1, 0), 2);
+        CHECKS.same("all", proxy.again().validate(2, 2, 1, 0), 1);
+        proxy.logout(0);
+        CHECKS.same("2 and 3, granting", proxy.again().validate(1, 0, 2, 0), 2);
     }
 
-    private static void forAnotherService() {
-        TicketHouse house = withTicket();
+    private static void allCases() {
+        for (int kind : new int[] {PLAIN, FRESH, PROXY, GRANTING}) {
+            for (int death = 0; death <= 4; death++) {
+                for (int s : new int[] {0, 1, 2, 6}) {
+                    for (int how = 0; how <= 7; how++) {
+                        oneCase(kind, death, s, how);
+                    }
+                }
+            }
+        }
+    }
+
+    private static void oneCase(int kind, int death, int s, int how) {
+        House house = Scenes.granting();
+        house.tick(3);
+        int session = kind == FRESH ? 1 : 0;
+        int t = given(house, kind);
         house.tick(1);
-        asks(house, 0, 3, 0, 4);
-        CHECKS.same("the session is not used", house.session(0, 3), 4);
-        CHECKS.same("it is dead", house.about(0, 1), 0);
-        asks(house, 0, 2, 0, 3);
+        bringDeath(house, death, t, session);
+        int good = house.about(t, 1);
+        int used = house.session(session, 3);
+        int code = s == 2 || s == 6 ? 1
+                : kind == GRANTING || kind == PROXY && (how & 2) == 0 ? 2
+                : good == 0 ? 3 : s == 1 ? 4 : (how & 1) == 1 && kind != FRESH ? 5 : 0;
+        String call = "kind " + kind + ", death " + death + ", validate(" + t + ", " + s + ", "
+                + how + ", 0)";
+        CHECKS.same(call, house.validate(t, s, how, 0), code);
+        CHECKS.same("good after " + call, house.about(t, 1), code == 1 || code == 2 ? good : 0);
+        CHECKS.same("used after " + call, house.session(session, 3),
+                code == 0 ? house.house(0) : used);
+        if (code != 0) {
+            CHECKS.same("document of " + call, Reading.document(house),
+                    "<no c=\"" + code + "\">" + t + "</no>");
+        }
     }
 
-    private static void notFresh() {
-        TicketHouse house = withTicket();
+    private static int given(House house, int kind) {
+        switch (kind) {
+            case PLAIN: return house.ticket(0, 0);
+            case FRESH: return house.enter(0, 5, 0);
+            case PROXY: return house.proxy(1, 0);
+            default: return 1;
+        }
+    }
+
+    private static void bringDeath(House house, int death, int t, int session) {
+        if (death == 1) {
+            house.tick(t == 1 ? 57 : 10);
+        } else if (death == 2) {
+            house.validate(t, 0, 2, 0);
+            house.tick(1);
+        } else if (death == 3) {
+            house.logout(session);
+        } else if (death == 4) {
+            house.tick(151);
+        }
+        boolean asksInVain = t == 1 && death == 2;
+        CHECKS.same("good, death " + death, house.about(t, 1), death == 0 || asksInVain ? 1 : 0);
+    }
+
+    private static void whoIsGranted() {
+        for (int c = 0; c <= 5; c++) {
+            for (int broken = 0; broken <= 5; broken++) {
+                for (int flags : new int[] {1, 3, 61, 63}) {
+                    House house = withTicket(PLAIN);
+                    if (broken > 0) {
+                        house.callback(broken, false);
+                    }
+                    house.service(0, flags);
+                    CHECKS.same("validate", house.validate(2, 0, 0, c), 0);
+                    boolean due = c > 0 && c != broken && (flags & 2) != 0;
+                    CHECKS.same("house(2), callback " + c + ", broken " + broken + ", flags "
+                            + flags, house.house(2), due ? 4 : 3);
+                }
+            }
+        }
+        for (int code : new int[] {4, 5}) {
+            House house = withTicket(PLAIN);
+            house.service(1, 3);
+            house.validate(2, code == 4 ? 1 : 0, code == 5 ? 1 : 0, 1);
+            CHECKS.same("house(2), code " + code, house.house(2), 3);
+            house.validate(2, 0, 0, 1);
+            CHECKS.same("house(2), code 3", house.house(2), 3);
+        }
+    }
+
+    private static void lastGranted() {
+        for (int before = 148; before <= 150; before++) {
+            House house = Scenes.granting();
+            for (int t = 2; t < before; t++) {
+                house.ticket(0, 0);
+            }
+            house.tick(2);
+            CHECKS.same("validate with " + before, house.validate(147, 0, 0, 4), 0);
+            CHECKS.same("house(2)", house.house(2), before == 148 ? 149 : 150);
+            CHECKS.same("session(0, 3)", house.session(0, 3), 2);
+            String given = before == 150 ? "" : "<g>" + before + "</g>";
+            CHECKS.same("document", Reading.document(house),
+                    "<ok u=\"\"><d>0</d><l>1</l><n>0</n>" + given + "</ok>");
+        }
+    }
+
+    private static void whatIsGranted() {
+        House house = withTicket(PLAIN);
         house.tick(1);
-        asks(house, 0, 2, 1, 5);
-        CHECKS.same("the session is not used", house.session(0, 3), 4);
-        CHECKS.same("no granting ticket", house.house(2), 1);
-        asks(house, 0, 2, 0, 3);
-        asks(house, house.enter(1, 5, 2), 2, 1, 0);
-        TicketHouse proxies = withTicket();
-        proxies.validate(proxies.enter(1, 5, 2), 2, 1, 1);
-        CHECKS.same("a granting ticket is not fresh", proxies.about(2, 5), 0);
-        asks(proxies, proxies.proxy(2, 3), 3, 3, 5);
-    }
-
-    private static void firstCodeThatHolds() {
-        TicketHouse house = withTicket();
-        house.validate(0, 2, 0, 1);
-        house.proxy(1, 2);
-        asks(house, 1, 0, 0, 1);
-        asks(house, 2, 0, 1, 1);
-        house.tick(11);
-        asks(house, 2, 3, 1, 2);
-        asks(house, 2, 3, 3, 3);
-        house.ticket(0, 2);
-        asks(house, 3, 3, 1, 4);
-        house.tick(100);
-        asks(house, 1, 2, 2, 2);
-        asks(house, 0, 3, 1, 3);
-    }
-
-    private static void attributes() {
-        TicketHouse house = new TicketHouse();
-        Checks.text(house, 0, 0, "zero");
-        Checks.text(house, 0, 2, "two");
-        house.password(0, 5);
-        house.password(1, 5);
-        Checks.text(house, 1, 1, "one");
-        for (int flags = 0; flags < 8; flags++) {
-            house.service(0, 1 + 8 * flags);
-            String zero = (flags & 1) == 0 ? "" : "<a0>zero</a0>";
-            String two = (flags & 4) == 0 ? "" : "<a2>two</a2>";
-            house.validate(house.enter(0, 5, 0), 0, 4, 0);
-            CHECKS.same("attributes wanted, released " + flags, Checks.document(house),
-                    "<ok u=\"\">" + zero + two + "<d>0</d><n>1</n></ok>");
-            house.validate(house.enter(0, 5, 0), 0, 3, 0);
-            CHECKS.same("attributes not wanted, released " + flags, Checks.document(house),
-                    "<ok u=\"\"><d>0</d><n>1</n></ok>");
-        }
-        house.validate(house.enter(1, 5, 0), 0, 4, 0);
-        CHECKS.same("attribute 1", Checks.document(house),
-                "<ok u=\"\"><a1>one</a1><d>0</d><n>1</n></ok>");
-    }
-
-    private static void escapes() {
-        TicketHouse house = new TicketHouse();
-        house.password(0, 5);
-        house.service(0, 63);
-        Checks.text(house, 0, 3, "&<>\"'/ ~");
-        Checks.text(house, 0, 1, "a&amp;b");
-        Checks.text(house, 0, 2, " ");
-        house.validate(house.enter(0, 5, 0), 0, 4, 0);
-        CHECKS.same("escapes", Checks.document(house),
-                "<ok u=\"&amp;&lt;&gt;&quot;'/ ~\"><a1>a&amp;amp;b</a1><a2> </a2>"
-                + "<d>0</d><n>1</n></ok>");
-    }
-
-    private static void grantingTickets() {
-        TicketHouse house = withTicket();
-        house.tick(2);
-        CHECKS.same("validate(0, 2, 0, 5)", house.validate(0, 2, 0, 5), 0);
-        CHECKS.same("document", Checks.document(house),
-                "<ok u=\"Ann\"><d>4</d><n>0</n><g>1</g></ok>");
-        CHECKS.same("the granting ticket", Checks.ticket(house, 1), "2 1 0 5 6 0 0 1");
-        house.callback(5, false);
-        CHECKS.same("no callback that works", house.validate(house.ticket(0, 2), 2, 0, 5), 0);
-        CHECKS.same("document", Checks.document(house), PLAIN);
-        CHECKS.same("no proxies", house.validate(house.ticket(0, 3), 3, 0, 4), 0);
-        CHECKS.same("document", Checks.document(house), PLAIN);
-        CHECKS.same("no callback", house.validate(house.ticket(0, 2), 2, 0, 0), 0);
-        CHECKS.same("document", Checks.document(house), PLAIN);
-        CHECKS.same("refused", house.validate(house.ticket(0, 2), 3, 0, 4), 4);
-        CHECKS.same("house(2)", house.house(2), 6);
-        CHECKS.same("the callback's later fault is none", house.about(1, 1), 1);
-        // The service is looked at as it is now.
-        house.service(3, 3);
-        CHECKS.same("proxies now", house.validate(house.ticket(0, 3), 3, 0, 4), 0);
-        CHECKS.same("house(2)", house.house(2), 8);
-    }
-
-    private static void chainInItsOrder() {
-        TicketHouse house = withTicket();
-        house.validate(0, 2, 0, 5);
-        house.validate(house.proxy(1, 2), 2, 2, 1);
-        CHECKS.same("one callback", Checks.document(house),
-                "<ok u=\"Ann\"><d>4</d><n>0</n><g>3</g><p>5</p></ok>");
-        house.validate(house.proxy(3, 2), 2, 2, 4);
-        CHECKS.same("two callbacks", Checks.document(house),
-                "<ok u=\"Ann\"><d>4</d><n>0</n><g>5</g><p>1</p><p>5</p></ok>");
-        house.validate(house.proxy(5, 3), 3, 2, 4);
-        CHECKS.same("three callbacks", Checks.document(house),
-                "<ok u=\"Ann\"><d>4</d><n>0</n><p>4</p><p>1</p><p>5</p></ok>");
-    }
-
-    private static void longestDocument() {
-        TicketHouse house = new TicketHouse();
-        String quotes = "\"\"\"\"\"\"\"\"";
-        for (int which = 0; which < 4; which++) {
-            Checks.text(house, 0, which, quotes);
-        }
-        house.password(0, 5);
-        house.service(0, 63);
-        for (int i = 0; i < 400; i++) {
-            house.tick(200);
-        }
+        house.validate(2, 0, 0, 1);
+        CHECKS.same("from a service ticket", Reading.ticket(house, 3), "2 1 0 1 6 0 2 1");
+        house.proxy(3, 0);
+        house.tick(1);
+        house.validate(4, 0, 2, 2);
+        CHECKS.same("from a proxy ticket", Reading.ticket(house, 5), "2 1 0 2 7 0 4 2");
         house.login(0, 5, true);
-        house.ticket(0, 0);
-        StringBuilder chain = new StringBuilder();
-        for (int t = 0; t < 148; t += 2) {
-            house.validate(t, 0, 2, 3);
-            house.proxy(t + 1, 0);
-            chain.append("<p>3</p>");
-        }
-        CHECKS.same("the longest document", house.validate(148, 0, 6, 1), 0);
-        String x = "&quot;".repeat(8);
-        CHECKS.same("document", Checks.document(house),
-                "<ok u=\"" + x + "\"><a0>" + x + "</a0><a1>" + x + "</a1><a2>" + x + "</a2>"
-                + "<d>80000</d><l>1</l><n>0</n><g>149</g>" + chain + "</ok>");
+        house.validate(house.ticket(1, 0), 0, 0, 5);
+        CHECKS.same("of another session", Reading.ticket(house, 7), "2 1 1 5 7 0 6 1");
     }
 
-    private static void theDocument() {
-        TicketHouse house = withTicket();
-        house.validate(-12, 2, 0, 0);
-        String due = no(1, -12);
-        CHECKS.same("document(NONE)", house.document(TicketHouse.NONE), due.length());
-        for (int i = 0; i < due.length(); i++) {
-            CHECKS.same("document(" + i + ")", house.document(i), due.charAt(i));
-        }
-        for (int i : new int[] {due.length(), -2, 5000, Integer.MIN_VALUE, Integer.MAX_VALUE}) {
-            CHECKS.same("document(" + i + ")", house.document(i), TicketHouse.NONE);
-        }
+    private static void wrongWishes() {
+        House house = withTicket(PLAIN);
+        house.validate(99, 0, 0, 0);
+        CHECKS.badOutside("validate(2, 0, #, 0)", house, 0, 7, (h, x) -> h.validate(2, 0, x, 0));
+        CHECKS.badOutside("validate(2, 0, #, 5)", house, 0, 7, (h, x) -> h.validate(2, 0, x, 5));
+        CHECKS.badOutside("validate(9, 0, #, 0)", house, 0, 7, (h, x) -> h.validate(9, 0, x, 0));
+        CHECKS.badOutside("validate(2, 6, #, 0)", house, 0, 7, (h, x) -> h.validate(2, 6, x, 0));
+        CHECKS.same("validate(2, 0, 0, 0)", house.again().validate(2, 0, 0, 0), 0);
+        CHECKS.same("validate(2, 0, 7, 0)", house.again().validate(2, 0, 7, 0), 5);
     }
 
-    private static void theDocumentStays() {
-        TicketHouse house = withTicket();
-        house.validate(0, 2, 0, 0);
-        Checks.text(house, 1, 3, "Bob");
-        house.ticket(0, 2);
-        house.logout(0);
-        house.tick(50);
-        CHECKS.same("document", Checks.document(house), PLAIN);
-        house.validate(house.enter(1, 5, 2), 2, 0, 0);
-        CHECKS.same("the name as it is now", Checks.document(house),
-                "<ok u=\"Bob\"><d>54</d><n>1</n></ok>");
+    private static void wrongCallbacks() {
+        House house = withTicket(PLAIN);
+        house.validate(99, 0, 0, 0);
+        CHECKS.badOutside("validate(2, 0, 0, #)", house, 0, 5, (h, c) -> h.validate(2, 0, 0, c));
+        CHECKS.badOutside("validate(2, 0, 7, #)", house, 0, 5, (h, c) -> h.validate(2, 0, 7, c));
+        CHECKS.badOutside("validate(9, 0, 0, #)", house, 0, 5, (h, c) -> h.validate(9, 0, 0, c));
+        CHECKS.badOutside("validate(2, 1, 0, #)", house, 0, 5, (h, c) -> h.validate(2, 1, 0, c));
+        CHECKS.badOutside("validate(2, 0, #, #)", house, 0, 7, (h, x) -> h.validate(2, 0, x, x));
+        CHECKS.same("validate(2, 0, 0, 0)", house.again().validate(2, 0, 0, 0), 0);
+        CHECKS.same("validate(2, 0, 0, 5)", house.again().validate(2, 0, 0, 5), 0);
     }
 
-    private static void refuses() {
-        TicketHouse house = withTicket();
-        house.validate(7, 2, 0, 0);
-        for (int how : new int[] {8, -1, Integer.MIN_VALUE, Integer.MAX_VALUE}) {
-            CHECKS.badArgument("validate(0, 2, " + how + ", 0)", house,
-                    () -> house.validate(0, 2, how, 0));
-            CHECKS.badArgument("validate(9, 9, " + how + ", 0)", house,
-                    () -> house.validate(9, 9, how, 0));
-        }
-        for (int c : new int[] {6, -1, Integer.MIN_VALUE, Integer.MAX_VALUE}) {
-            CHECKS.badArgument("validate(0, 2, 0, " + c + ")", house,
-                    () -> house.validate(0, 2, 0, c));
-            CHECKS.badArgument("validate(9, 9, 0, " + c + ")", house,
-                    () -> house.validate(9, 9, 0, c));
-        }
+    private static void fullHouses() {
+        House tickets = Scenes.fullOfTickets();
+        CHECKS.same("150 tickets, code 0", tickets.validate(148, 0, 0, 3), 0);
+        CHECKS.same("150 tickets, code 3", tickets.validate(148, 0, 0, 3), 3);
+        CHECKS.same("150 tickets, code 1", tickets.validate(150, 0, 0, 3), 1);
+        House sessions = Scenes.fullOfSessions();
+        CHECKS.same("40 sessions", sessions.validate(sessions.ticket(0, 0), 0, 0, 3), 0);
+        CHECKS.same("house(2)", sessions.house(2), 2);
     }
 }

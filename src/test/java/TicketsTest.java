@@ -11,8 +11,8 @@ public final class TicketsTest {
         CHECKS.holds("a ticket's death is not that of another", TicketsTest::livesAreApart);
         CHECKS.holds("FRESH if given by enter()", TicketsTest::fresh);
         CHECKS.holds("The CHAIN of a service ticket is empty; that of a proxy ticket is that of "
-                + "the granting ticket; that of a granting ticket is its callback and then the chain "
-                + "of the ticket for which one had asked", TicketsTest::chains);
+                + "the granting ticket; that of a granting ticket is its callback and then the "
+                + "chain of the ticket for which one had asked", TicketsTest::chains);
         CHECKS.holds("TICKETS (at most 150, of all kinds together)", TicketsTest::mostTickets);
         CHECKS.holds("9: A service ticket, not fresh, of a session, which is used now",
                 TicketsTest::ticketOfASession);

@@ -126,12 +126,48 @@ final class Reading {
         House copy = house.again();
         copy.password(u, 5);
         copy.service(5, 63);
-        try {
-            copy.validate(copy.enter(u, 5, 5), 5, 4, 0);
-            return document(copy);
-        } catch (IllegalStateException e) {
-            return "full";
+        int t = new Reading(copy).ticketOf(u);
+        if (t == TicketHouse.NONE) {
+            t = newTicket(copy, u);
         }
+        if (t == TicketHouse.NONE) {
+            return "nothing shows them";
+        }
+        int s = copy.about(t, 3);
+        copy.service(s, 63);
+        copy.validate(t, s, 6, 0);
+        return document(copy);
+    }
+
+    /** One of the user's that is good and that services can ask for, or NONE. */
+    private int ticketOf(int u) {
+        int count = ask(h -> h.house(2));
+        for (int i = count - 1; i >= 0; i--) {
+            int t = i;
+            int session = ask(h -> h.about(t, 2));
+            if (ask(h -> h.about(t, 1)) == 1 && ask(h -> h.about(t, 0)) != 2
+                    && ask(h -> h.session(session, 0)) == u) {
+                return t;
+            }
+        }
+        return TicketHouse.NONE;
+    }
+
+    private static int newTicket(House copy, int u) {
+        try {
+            return copy.enter(u, 5, 5);
+        } catch (IllegalStateException e) {
+            return ticketOfASession(copy, u);
+        }
+    }
+
+    private static int ticketOfASession(House copy, int u) {
+        for (int n = 0; n < 40 && copy.house(2) < 150; n++) {
+            if (copy.session(n, 0) == u && copy.session(n, 1) == 1) {
+                return copy.ticket(n, 5);
+            }
+        }
+        return TicketHouse.NONE;
     }
 
     private static String locks(House house) {
